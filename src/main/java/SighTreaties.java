@@ -39,6 +39,12 @@ public final class SighTreaties {
     private static final int TOO_WEAK = 4;
 
     private static final long FIRST_HASH = 4229L;
+    private static final long HASH_FACTOR = 31L;
+
+    private static final int FRACTION_BITS = 52;
+    private static final long FRACTION_SIZE = 4503599627370496L;
+    /** Also what is added to an exponent in the bits of a double. */
+    private static final long MAX_EXPONENT = 1023L;
 
     private final Treaty now;
     private final History history;
@@ -552,7 +558,7 @@ public final class SighTreaties {
     // ---- parts of the digest
 
     private static long chain(long hash, long value) {
-        return 31L * hash + value;
+        return HASH_FACTOR * hash + value;
     }
 
     private static long chainFlag(long hash, boolean flag) {
@@ -641,25 +647,21 @@ public final class SighTreaties {
     }
 
     /**
-     * The bits of a double of 0 or more, as Double.doubleToLongBits tells them: that function is no part of the
-     * library that LANGUAGE.md leaves. Halving and doubling are exact, so no bit is lost.
+     * The bits of a mean, as Double.doubleToLongBits tells them: that function is no part of the library that
+     * LANGUAGE.md leaves. A mean is 0, or at least 1, since 1 frame of 60 is 1 hundredth; halving loses no bit.
      */
-    private static long bitsOf(double value) {
-        if (!(value > 0.0)) {
+    private static long bitsOf(double mean) {
+        if (!(mean >= 1.0)) {
             return 0L;
         }
-        double part = value;
-        int exponent = 0;
-        while (part >= 2.0 && exponent < 1023) {
+        double part = mean;
+        long exponent = 0L;
+        while (part >= 2.0 && exponent < MAX_EXPONENT) {
             part = part / 2.0;
             exponent++;
         }
-        while (part < 1.0 && exponent > -1022) {
-            part = part * 2.0;
-            exponent--;
-        }
-        long fraction = (long) ((part - 1.0) * 4503599627370496.0);
-        return ((exponent + 1023L) << 52) + fraction;
+        long fraction = (long) ((part - 1.0) * (double) FRACTION_SIZE);
+        return ((exponent + MAX_EXPONENT) << FRACTION_BITS) | fraction;
     }
 
     // ---- checks that throw
@@ -868,7 +870,7 @@ public final class SighTreaties {
 
         void putSignature(int state, int reel, int tongue) {
             int place = place(reel, tongue);
-            put(signed, place, at(signed, place) | 1 << state);
+            put(signed, place, at(signed, place) | (1 << state));
         }
 
         // ---- clauses
@@ -1097,7 +1099,7 @@ public final class SighTreaties {
         }
 
         boolean hasSignature(int state, int reel, int tongue) {
-            return (at(signed, place(reel, tongue)) >> state & 1) == 1;
+            return ((at(signed, place(reel, tongue)) >> state) & 1) == 1;
         }
 
         int signaturesAt(int reel, int tongue) {

@@ -52,15 +52,25 @@ public final class SighTreatiesPromises {
 
     /** The call answers this, saves one state, and undo brings the state from before it back. */
     private static void undoable(SighTreaties x, String what, long want, Call call) {
+        if (x.savedStates() == 6) {
+            forgetSaved(x);
+        }
         long before = x.digest();
         int saved = x.savedStates();
         due(what, call.answer(), want);
-        due(what + " saves a state", x.savedStates(), Math.min(6, saved + 1));
-        if (saved < 6) {
+        due(what + " saves a state", x.savedStates(), saved + 1);
+        x.undo();
+        due(what + " is undone", x.digest(), before);
+        due(what + " once more", call.answer(), want);
+    }
+
+    /** Leaves one saved state, so that a digest can tell whether one more is saved and undone. */
+    private static void forgetSaved(SighTreaties x) {
+        x.keep(0);
+        while (x.savedStates() > 0) {
             x.undo();
-            due(what + " is undone", x.digest(), before);
-            due(what + " once more", call.answer(), want);
         }
+        x.goBack(0);
     }
 
     private static void write(SighTreaties x, String text) {
@@ -181,6 +191,13 @@ public final class SighTreatiesPromises {
         x.wipe(1, 2);
         due("wiped", x.changeLips(1, 4), 5);
         due("misfit", x.fits(1, 2), false);
+        for (int tongue = 0; tongue < 3; tongue++) {
+            SighTreaties y = with("0A10");
+            take(y, 0, tongue, 5);
+            refused(y, "changeLips, recorded", STATE, () -> y.changeLips(0, 20));
+            refused(y, "changeSigh, recorded", STATE, () -> y.changeSigh(0, 1));
+            refused(y, "moveClause, recorded", STATE, () -> y.moveClause(0, 1));
+        }
     }
 
     private static void promise4() {
@@ -512,6 +529,7 @@ public final class SighTreatiesPromises {
         due("no sigh", x.sighOf(2), 0);
         due("lips", x.lipsOf(2), 4);
         due("sigh as long as lips", x.sighOf(3), 7);
+        due("a sigh of 1", with("0A4~1").sighOf(0), 1);
         x.undo();
         due("undone as one", x.clauses(), 1);
         due("buffer stays cleared", x.clearBuffer(), 0);
@@ -605,6 +623,20 @@ public final class SighTreatiesPromises {
         x.undo();
         due("sigh", x.sighOf(2), 7);
         due("the buffer stays", x.clearBuffer(), 3);
+        SighTreaties z = with("0A10~5;1B20");
+        z.translate(1, 2, 9);
+        z.keep(0);
+        z.undo();
+        z.undo();
+        z.addClause(3, 4, 44);
+        z.goBack(0);
+        due("reel of another clause 0", z.reelOf(0), 0);
+        due("its speaker", z.speakerOf(0), 0);
+        due("its lips", z.lipsOf(0), 10);
+        due("its sigh", z.sighOf(0), 5);
+        due("the translation of clause 1", z.framesOf(1, 2), 9);
+        z.undo();
+        due("speaker before", z.speakerOf(0), 4);
         SighTreaties y = new SighTreaties();
         y.keep(0);
         y.goBack(0);
@@ -882,6 +914,17 @@ public final class SighTreatiesPromises {
         }
         y.cast(0, 2, 30);
         sessions(y, 0, 2, 4);
+        SighTreaties z = new SighTreaties();
+        for (int clause = 0; clause < 24; clause++) {
+            z.addClause(0, 3, 20);
+            z.translate(clause, 0, 20);
+        }
+        z.cast(3, 0, 20);
+        sessions(z, 3, 0, 24);
+        z.record(23, 0);
+        sessions(z, 3, 0, 24);
+        z.wipe(23, 0);
+        sessions(z, 3, 0, 25);
         y.changeLips(20, 40);
         y.changeSigh(20, 1);
         promise = 40;
@@ -932,6 +975,9 @@ public final class SighTreatiesPromises {
         take(x, 3, 0, 10);
         due("complete", x.isComplete(1, 0), true);
         due("another tongue", x.isComplete(1, 1), false);
+        x.wipe(0, 0);
+        due("the first one is missing", x.isComplete(1, 0), false);
+        x.undo();
         promise = 46;
         due("not mixed", x.isMixed(1, 0), false);
         promise = 49;
@@ -1054,8 +1100,16 @@ public final class SighTreatiesPromises {
         x.addClause(3, 0, 10);
         due("reel 3 has a clause", x.isRatified(0), false);
         x.undo();
+        x.addClause(0, 0, 10);
+        due("reel 0 has a clause", x.isRatified(0), false);
+        x.undo();
         x.wipe(0, 0);
         due("wiped", x.isRatified(0), false);
+        SighTreaties y = with("3E10");
+        take(y, 0, 2, 10);
+        y.mix(3, 2);
+        y.sign(4, 3, 2);
+        due("a single clause", y.isRatified(2), true);
     }
 
     private static void promise55() {
@@ -1200,6 +1254,10 @@ public final class SighTreatiesPromises {
         due("E", x.loudestState(), 4);
         x.changeLips(0, 22);
         due("D again", x.loudestState(), 3);
+        x.addClause(3, 1, 60);
+        due("B", x.loudestState(), 1);
+        x.addClause(3, 0, 60);
+        due("A", x.loudestState(), 0);
     }
 
     private static void promise65() {
