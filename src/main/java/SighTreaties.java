@@ -266,7 +266,7 @@ public final class SighTreaties {
     public void keep(int slot) throws IllegalArgumentException {
         checkRange(slot, 0, SLOTS - 1);
         Treaty row = treatyAt(slots, slot);
-        if (row != null && slot < isKept.length) {
+        if (row != null && slot >= 0 && slot < isKept.length) {
             row.becomeLike(now);
             isKept[slot] = true;
         }
@@ -922,15 +922,17 @@ public final class SighTreaties {
 
         /** The frames of the translation and the sigh, together. */
         int spokenAt(int clause, int tongue) {
-            return framesAt(clause, tongue) + sighAt(clause);
+            return at(frames, place(clause, tongue)) + at(sighs, clause);
         }
 
         int roomAt(int clause, int tongue) {
-            return lipsAt(clause) - spokenAt(clause, tongue);
+            return at(lips, clause) - spokenAt(clause, tongue);
         }
 
+        /** Looks into the rows itself, since most that is told of a tongue asks for it from many calls deep. */
         boolean hasFit(int clause, int tongue) {
-            return hasTranslation(clause, tongue) && roomAt(clause, tongue) >= 0;
+            int own = at(frames, place(clause, tongue));
+            return own > 0 && own + at(sighs, clause) <= at(lips, clause);
         }
 
         int hundredthsAt(int clause, int tongue) {

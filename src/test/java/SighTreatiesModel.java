@@ -787,12 +787,22 @@ public final class SighTreatiesModel {
         return want;
     }
 
+    private int outside(int least, int most) {
+        int[] numbers = {least - 1, most + 1, Integer.MIN_VALUE, Integer.MAX_VALUE};
+        return numbers[below(numbers.length)];
+    }
+
     /** Mostly a number that there is, and sometimes one below or above. */
     private int number(int size) {
-        return below(25) == 0 ? (below(2) == 0 ? -1 : size) : below(Math.max(1, size));
+        return below(25) == 0 ? outside(0, size - 1) : below(Math.max(1, size));
     }
 
     private int value(int least, int most) {
+        return below(25) == 0 ? outside(least, most) : between(least, most);
+    }
+
+    /** A number for a text, where one that is far outside would use up too many calls. */
+    private int nearValue(int least, int most) {
         return below(25) == 0 ? (below(2) == 0 ? least - 1 : most + 1) : between(least, most);
     }
 
@@ -804,8 +814,16 @@ public final class SighTreatiesModel {
         return below(25) == 0 ? number(4) : below(reels);
     }
 
+    private int nearReel() {
+        return below(25) == 0 ? below(5) : below(reels);
+    }
+
     private int speaker() {
         return below(25) == 0 ? number(5) : below(states);
+    }
+
+    private int nearState() {
+        return below(25) == 0 ? below(6) : below(states);
     }
 
     private int tongue() {
@@ -828,8 +846,8 @@ public final class SighTreatiesModel {
                 call("append", value(33, 126));
                 continue;
             }
-            String part = (i == 0 ? "" : ";") + reel() + (char) ('A' + speaker()) + value(4, 60)
-                + (below(3) == 0 ? "~" + value(1, 20) : "");
+            String part = (i == 0 ? "" : ";") + nearReel() + (char) ('A' + nearState()) + nearValue(4, 60)
+                + (below(3) == 0 ? "~" + nearValue(1, 20) : "");
             for (char sign : part.toCharArray()) {
                 call("append", (int) sign);
             }
