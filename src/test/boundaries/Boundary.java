@@ -156,14 +156,15 @@ final class Boundary {
     /** Leaves one saved state alone, that of going back. */
     static void forget(SighTreaties x) {
         x.keep(0);
-        while (x.savedStates() > 0) {
+        for (int saved = x.savedStates(); saved > 0; saved--) {
             x.undo();
         }
         x.goBack(0);
     }
 
+    /** Makes 6 saved states of what there are, without any other change. */
     static void fillSaved(SighTreaties x) {
-        while (x.savedStates() < 6) {
+        for (int saved = x.savedStates(); saved < 6; saved++) {
             x.cast(4, 2, x.staminaOf(4, 2));
         }
     }

@@ -153,6 +153,15 @@ final class QuestionBoundaries {
             x.annex(0, 1, 59);
             Boundary.due("the most", x.annexedOf(0, 1), 59);
             Boundary.answers("recorded", Made::recorded, 5, y -> y.annexedOf(0, 1));
+            SighTreaties z = Made.full();
+            z.translate(23, 2, 60);
+            z.annex(23, 2, 59);
+            for (int clause = 0; clause < 24; clause++) {
+                for (int tongue = 0; tongue < 3; tongue++) {
+                    boolean isLast = clause == 23 && tongue == 2;
+                    Boundary.due("the last one alone", z.annexedOf(clause, tongue), isLast ? 59 : 0);
+                }
+            }
         });
     }
 

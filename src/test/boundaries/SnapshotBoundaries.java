@@ -1,3 +1,5 @@
+import java.util.List;
+
 /** The boundaries of promises 19 to 22: snapshots and undo. */
 final class SnapshotBoundaries {
     private static final String SLOT = "- `slot`: 0 or 1";
@@ -87,6 +89,9 @@ final class SnapshotBoundaries {
                 Boundary.due("as it was", x.clauses(), 1);
                 Boundary.due("as they were", x.lipsOf(0), 60);
             }
+            SighTreaties y = otherClause();
+            y.goBack(0);
+            dueClause(y, "[3, 4, 60, 20, true, 9]");
         });
         Boundary.test(20, "Undoable.", () -> {
             Boundary.saves("goBack(1)", SnapshotBoundaries::keptBoth, x -> back(x, 1));
@@ -96,6 +101,10 @@ final class SnapshotBoundaries {
             x.undo();
             Boundary.due("undone", x.digest(), before);
             Boundary.due("a snapshot of less clauses", clausesAfterGoingBackAndUndo(), 24);
+            SighTreaties y = otherClause();
+            y.goBack(0);
+            y.undo();
+            dueClause(y, "[1, 2, 44, 0, false, 0]");
         });
         Boundary.test(20, SLOT, () ->
             Boundary.range(SnapshotBoundaries::keptBoth, 0, 1, Boundary.ARGUMENT, SnapshotBoundaries::back));
@@ -114,6 +123,28 @@ final class SnapshotBoundaries {
             Boundary.due("slot 1, kept in 0", Boundary.answer(x, y -> back(y, 1)), Boundary.STATE);
             Boundary.due("a snapshot of nothing", back(x, 0), 0);
         });
+    }
+
+    /** In slot 0 a clause that was undone; another one stands in its place. */
+    private static SighTreaties otherClause() {
+        SighTreaties x = Made.empty();
+        x.addClause(3, 4, 60);
+        x.changeSigh(0, 20);
+        x.translate(0, 2, 40);
+        x.annex(0, 2, 9);
+        x.record(0, 2);
+        x.keep(0);
+        for (int i = 0; i < 5; i++) {
+            x.undo();
+        }
+        x.addClause(1, 2, 44);
+        return x;
+    }
+
+    private static void dueClause(SighTreaties x, String want) {
+        String got = List.of(x.reelOf(0), x.speakerOf(0), x.lipsOf(0), x.sighOf(0), x.isRecorded(0, 2),
+            x.annexedOf(0, 2)).toString();
+        Boundary.due("reel, state, lips, sigh, recorded, annexed", got, want);
     }
 
     private static int clausesAfterGoingBackAndUndo() {

@@ -336,6 +336,12 @@ final class TreatyBoundaries {
             }
         });
         Boundary.test(54, TRUE, () -> {
+            SighTreaties one = Made.one();
+            Made.take(one, 0, 2, 60);
+            one.mix(0, 2);
+            Boundary.due("one clause, not signed", one.isRatified(2), false);
+            one.sign(0, 0, 2);
+            Boundary.due("one clause, signed", one.isRatified(2), true);
             for (int reel = 0; reel < 4; reel++) {
                 SighTreaties x = Made.with(reel + "E4;" + reel + "C4");
                 Made.take(x, 0, 0, 4);

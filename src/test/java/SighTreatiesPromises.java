@@ -67,7 +67,7 @@ public final class SighTreatiesPromises {
     /** Leaves one saved state, so that a digest can tell whether one more is saved and undone. */
     private static void forgetSaved(SighTreaties x) {
         x.keep(0);
-        while (x.savedStates() > 0) {
+        for (int saved = x.savedStates(); saved > 0; saved--) {
             x.undo();
         }
         x.goBack(0);
