@@ -362,6 +362,7 @@ final class TreatyBoundaries {
             Boundary.answers("none", Made::empty, 0, x -> x.misfitsIn(0));
             Boundary.answers("none translated", Made::full, 0, x -> x.misfitsIn(0));
             Boundary.answers("all fit", TreatyBoundaries::allReady, 0, x -> x.misfitsIn(2));
+            Boundary.answers("recorded ones fit", Made::recorded, 0, x -> x.misfitsIn(2));
             SighTreaties x = Made.some(24);
             for (int clause = 0; clause < 24; clause++) {
                 x.translate(clause, 2, x.lipsOf(clause) + 1);
@@ -451,6 +452,9 @@ final class TreatyBoundaries {
             Boundary.due("more by a sigh", x.nextClause(1), 1);
             x.changeSigh(2, 20);
             Boundary.due("much more by a sigh", x.nextClause(1), 2);
+            SighTreaties z = translatedWith(9, 12, 11);
+            z.changeSigh(0, 4);
+            Boundary.due("the fewest frames, the most with the sigh", z.nextClause(1), 0);
         });
         Boundary.test(62, "the clause that can be recorded now in a tongue", () -> {
             Boundary.answers("as long as the lips", () -> translatedWith(40, 9, 9), 0, x -> x.nextClause(1));

@@ -102,6 +102,7 @@ public final class SighTreatiesBoundaries {
         QuestionBoundaries.tests();
         TreatyBoundaries.tests();
         DigestBoundaries.tests();
+        BesideBoundaries.tests();
         Boundary.endOfTests();
         testQuotes();
         testSentences();
